@@ -130,7 +130,7 @@ public final class FlowGate {
     }
 
     private static int widthOf(int type) {
-        return isWide(type) ? 2 : 1;
+        return type == LONG || type == DOUBLE ? 2 : 1;
     }
 
     private static boolean isRaw(int type) {
@@ -374,14 +374,10 @@ public final class FlowGate {
 
         void copy(Frame other) {
             System.arraycopy(other.locals, 0, locals, 0, MOST_SLOTS);
-            copyStack(other);
-            subs = other.subs;
-            System.arraycopy(other.touched, 0, touched, 0, MOST_INSTRUCTIONS);
-        }
-
-        private void copyStack(Frame other) {
             System.arraycopy(other.stack, 0, stack, 0, MOST_SLOTS);
+            System.arraycopy(other.touched, 0, touched, 0, MOST_INSTRUCTIONS);
             depth = other.depth;
+            subs = other.subs;
         }
 
         /** The STATE in which the METHOD begins. */
@@ -407,7 +403,8 @@ public final class FlowGate {
         /** The STATE behind a SUB (there) when a RET (here) of its SUBROUTINE comes back to it. */
         void comeBack(Frame here, Frame there, int sub) {
             copy(there);
-            copyStack(here);
+            System.arraycopy(here.stack, 0, stack, 0, MOST_SLOTS);
+            depth = here.depth;
             int mask = here.touched[sub];
             for (int i = 0; i < MOST_SLOTS; i++) {
                 if ((mask >> i & 1) != 0) locals[i] = here.locals[i];
@@ -451,7 +448,7 @@ public final class FlowGate {
         }
 
         private void touchAll(int mask) {
-            for (int b = 0; b < MOST_INSTRUCTIONS; b++) {
+            for (int b = 0; b < MOST_INSTRUCTIONS && subs >> b != 0; b++) {
                 if (isIn(b)) touched[b] |= mask;
             }
         }
@@ -515,7 +512,7 @@ public final class FlowGate {
             long before = subs;
             subs &= other.subs;
             boolean changed = subs != before;
-            for (int b = 0; b < MOST_INSTRUCTIONS; b++) {
+            for (int b = 0; b < MOST_INSTRUCTIONS && before >> b != 0; b++) {
                 int together = isIn(b) ? touched[b] | other.touched[b] : 0;
                 if (together != touched[b]) changed = true;
                 touched[b] = together;
@@ -719,15 +716,6 @@ public final class FlowGate {
             }
         }
 
-        private int push(int type) {
-            return out.push(type, method.stack);
-        }
-
-        private int exchange(int taken, int type) {
-            out.drop(taken);
-            return push(type);
-        }
-
         private int takeIf(boolean there, int taken) {
             if (!there) return NEEDS_FAULT;
             out.drop(taken);
@@ -735,7 +723,9 @@ public final class FlowGate {
         }
 
         private int exchangeIf(boolean there, int taken, int type) {
-            return there ? exchange(taken, type) : NEEDS_FAULT;
+            if (!there) return NEEDS_FAULT;
+            out.drop(taken);
+            return out.push(type, method.stack);
         }
 
         private boolean fitsLocal(int local, int type) {
@@ -746,7 +736,7 @@ public final class FlowGate {
             int type = out.locals[local];
             if (type == NOTHING || isReturn(type) || !fitsLocal(local, type)) return NEEDS_FAULT;
             out.touch(local, type);
-            return push(type);
+            return out.push(type, method.stack);
         }
 
         private int store(int local) {
@@ -777,33 +767,33 @@ public final class FlowGate {
         private int enterSub(int sub) {
             if (out.isIn(sub)) return AGAIN_FAULT;
             out.enter(sub);
-            return push(RETURN + sub);
+            return out.push(RETURN + sub, method.stack);
         }
 
         private int shuffle(int op) {
-            if (op == DUP2 && isWide(out.top(0))) return push(out.top(0));
-            if (!out.hasNarrow(0)) return NEEDS_FAULT;
             int y = out.top(0);
+            if (op == DUP2 && isWide(y)) return out.push(y, method.stack);
+            if (!out.hasNarrow(0)) return NEEDS_FAULT;
             if (op == POP) return takeIf(true, 1);
-            if (op == DUP) return push(y);
+            if (op == DUP) return out.push(y, method.stack);
             if (!out.hasNarrow(1)) return NEEDS_FAULT;
             int x = out.top(1);
             if (op == DUP2) return pushBoth(x, y);
             out.drop(2);
             int fault = pushBoth(y, x);
-            return fault == NO_FAULT && op == OVER ? push(y) : fault;
+            return fault == NO_FAULT && op == OVER ? out.push(y, method.stack) : fault;
         }
 
         private int pushBoth(int x, int y) {
-            int fault = push(x);
-            return fault == NO_FAULT ? push(y) : fault;
+            int fault = out.push(x, method.stack);
+            return fault == NO_FAULT ? out.push(y, method.stack) : fault;
         }
 
         private int calculate(int op, int a, int b) {
-            if (op == PUSH) return push(a);
-            if (out.top(0) != a) return NEEDS_FAULT;
-            if (op == CHANGE) return exchange(1, b);
-            return exchangeIf(out.top(1) == a, 2, op == MATH ? a : INT);
+            if (op == PUSH) return out.push(a, method.stack);
+            boolean one = out.top(0) == a;
+            if (op == CHANGE) return exchangeIf(one, 1, b);
+            return exchangeIf(one && out.top(1) == a, 2, op == MATH ? a : INT);
         }
 
         private int decide(int op) {
@@ -819,7 +809,7 @@ public final class FlowGate {
         private int create(int k) {
             if (out.isOnStack(RAW + k)) return NEEDS_FAULT;
             out.replace(RAW + k, NOTHING);
-            return push(RAW + k);
+            return out.push(RAW + k, method.stack);
         }
 
         private int build(int c) {
