@@ -8,6 +8,7 @@ public final class FlowTest {
         handlers();
         handlerFaults();
         handlerOfItself();
+        verifyingAnew();
         Script.end();
     }
 
@@ -122,5 +123,20 @@ public final class FlowTest {
         // The HANDLER is MET first, and what is done is done with the STATE that comes of it.
         s.begin(0, 1, 1).code("PUSH 5; NOP; GIVE").handler(1, 2, 1, 1).passes().stack(1, 17).stack(2, 17).count(4, 4);
         s.begin(0, 1, 1).code("PUSH 1; STORE 0; GIVE").handler(1, 2, 1, 1).verify(2, 1).stack(1, 0).count(4, 2);
+    }
+
+    /** Nothing is left of an earlier verify(), not even of one that ended with a FAULT. */
+    private static void verifyingAnew() {
+        Script s = new Script("verifying anew");
+        s.begin(0, 1, 2).code("PUSH 1; IF 3; POP; GIVE").verify(2, 2).count(4, 3).stack(3);
+        s.gate.change(1, Script.op("POP"), 0, 0);
+        s.gate.change(2, Script.op("GIVE"), 0, 0);
+        s.passes().count(4, 3).count(5, 3).state(3, 32, -1);
+        s.begin(0, 1, 1, 1).code("SUB 2; GIVE; STORE 0; NOP; GIVE; THROW").handler(3, 4, 5, 1);
+        for (int i = 0; i < 3; i++) s.passes().subs(0).locals(0, 1).stack(0).subs(2, 2, 0).subs(5, 2, 1).count(4, 5);
+        s.gate.change(3, Script.op("POP"), 0, 0);
+        s.verify(2, 3).subs(0).stack(5, 17).count(4, 3);
+        s.gate.change(0, Script.op("PUSH"), 9, 0);
+        s.verify(1, 0).count(4, 0).count(5, 0).count(7, 0).state(0, 33, -1);
     }
 }
