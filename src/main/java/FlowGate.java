@@ -94,7 +94,7 @@ public final class FlowGate {
 
     public int state(int k, int slot) {
         if (k < 0 || k >= MOST_INSTRUCTIONS || !flow.reached[k]) return REFUSED;
-        return flow.frames[k].read(slot, flow.locals);
+        return flow.frames[k].read(slot);
     }
 
     public int join(int a, int b) {
@@ -520,9 +520,9 @@ public final class FlowGate {
             return changed;
         }
 
-        /** What state() answers of a slot, when there are so many LOCALS. */
-        int read(int slot, int localCount) {
-            if (slot >= 0 && slot < localCount) return locals[slot];
+        /** What state() answers of a slot; LOCALS that THE METHOD does not have are there too, with NOTHING. */
+        int read(int slot) {
+            if (slot >= 0 && slot < MOST_SLOTS) return locals[slot];
             if (slot >= STACK_SLOT && slot < STACK_SLOT + depth) return stack[slot - STACK_SLOT];
             if (slot == DEPTH_SLOT) return depth;
             if (slot == SUBS_SLOT) return Long.bitCount(subs);
@@ -558,7 +558,6 @@ public final class FlowGate {
         final Frame coming = new Frame();
         int looks;
         int place;
-        int locals;
         int reachedCount;
         long begunSubs;
 
@@ -581,7 +580,6 @@ public final class FlowGate {
 
         /** Goes along all ways of a METHOD of the right FORM: 0, or the FAULT, whose INSTRUCTION place is then. */
         int run() {
-            locals = method.locals;
             coming.start(method);
             int fault = meet(NO_PLACE, 0, coming);
             int k = 0;

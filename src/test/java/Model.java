@@ -497,7 +497,7 @@ final class Model {
         State s = states.get(k);
         if (s == null) return -1;
         List<Integer> subs = new ArrayList<>(s.subs.keySet());
-        if (slot >= 0 && slot < 12) return slot < s.locals.size() ? s.locals.get(slot) : -1;
+        if (slot >= 0 && slot < 12) return slot < s.locals.size() ? s.locals.get(slot) : 0;
         if (slot >= 16 && slot < 28) return slot - 16 < s.stack.size() ? s.stack.get(slot - 16) : -1;
         if (slot == 32) return s.stack.size();
         if (slot == 33) return subs.size();

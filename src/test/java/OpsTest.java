@@ -319,7 +319,7 @@ public final class OpsTest {
         Script s = new Script("slots");
         s.begin(0, 2, 2, 1).code("LOAD 0; GIVE; GIVE").passes();
         s.locals(1, 1, 0).stack(1, 1).subs(1);
-        for (int slot : new int[] {-1, 2, 11, 12, 15, 17, 27, 28, 31, 34, 39, 40, 45, 46, 99,
+        for (int slot : new int[] {-1, 12, 15, 17, 27, 28, 31, 34, 39, 40, 45, 46, 99,
             Integer.MIN_VALUE, Integer.MAX_VALUE}) {
             s.state(1, slot, -1);
         }
@@ -329,5 +329,11 @@ public final class OpsTest {
         s.state(0, 32, 0).state(0, 33, 0).state(0, 16, -1);
         s.begin(0, 12, 12, 1, 1, 1, 1, 1, 1).code("GIVE").passes();
         s.locals(0, 1, 1, 1, 1, 1, 1, 0, 0, 0, 0, 0, 0);
+        // LOCALS beyond those of THE METHOD are slots too, and nothing is left in them from the METHOD before.
+        s.begin(0, 1, 2, 2).code("NOP; GIVE").passes().locals(0, 2).locals(1, 2);
+        s.begin(0, 0, 0).code("NOP").verify(5, 0).locals(0);
+        s.begin(0, 12, 2, 1, 1, 1, 1, 1, 1).code("PUSH 3; STORE 10; PUSH 2; STORE 9; GIVE").passes();
+        s.locals(4, 1, 1, 1, 1, 1, 1, 0, 0, 0, 2, 3, 0).begin(0, 0, 0).code("GIVE").passes().locals(0);
+        new Script("LOCALS of a new object").code("NOP").verify(5, 0).locals(0).state(1, 0, -1);
     }
 }

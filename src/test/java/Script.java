@@ -75,9 +75,10 @@ final class Script {
         return state(k, 16 + want.length, -1);
     }
 
+    /** All LOCALS of an INSTRUCTION; those that are not told have NOTHING. */
     Script locals(int k, int... want) {
-        for (int i = 0; i < want.length; i++) state(k, i, want[i]);
-        return state(k, want.length, -1);
+        for (int i = 0; i < 12; i++) state(k, i, i < want.length ? want[i] : 0);
+        return state(k, 12, -1);
     }
 
     /** SUBS of an INSTRUCTION: pairs of a SUBROUTINE and what was TOUCHED in it. */
