@@ -30,6 +30,16 @@ final class Script {
         return this;
     }
 
+    Script goes(int a, int b, int want) {
+        return due("goes(" + a + ", " + b + ")", gate.goes(a, b), want);
+    }
+
+    /** JOINED one way and the other way round. */
+    Script join(int a, int b, int want) {
+        due("join(" + a + ", " + b + ")", gate.join(a, b), want);
+        return due("join(" + b + ", " + a + ")", gate.join(b, a), want);
+    }
+
     Script begin(int result, int locals, int stack, int... arguments) {
         due("begin", gate.begin(result, locals, stack), 1);
         for (int i = 0; i < arguments.length; i++) due("argument", gate.argument(arguments[i]), i + 1);

@@ -33,55 +33,50 @@ public final class TypesTest {
         return s.due("cls", x.cls(6, false), 8).due("cls", x.cls(6, false), 9);
     }
 
-    private static void joinBoth(Script s, int a, int b, int want) {
-        s.due("join(" + a + ", " + b + ")", s.gate.join(a, b), want);
-        s.due("join(" + b + ", " + a + ")", s.gate.join(b, a), want);
-    }
-
     private static void joined() {
         Script s = family("joined");
-        for (int t = 0; t <= 5; t++) joinBoth(s, t, t, t);
-        joinBoth(s, 1, 2, 0);
-        joinBoth(s, 3, 4, 0);
-        joinBoth(s, 0, 5, 0);
-        joinBoth(s, 0, 16, 0);
-        joinBoth(s, 1, 16, 0);
-        joinBoth(s, 1, 5, 0);
-        joinBoth(s, 1, 76, 0);
-        joinBoth(s, 5, 19, 19);
-        joinBoth(s, 5, 204, 204);
-        joinBoth(s, 5, 22, 22);
-        joinBoth(s, 22, 22, 22);
-        joinBoth(s, 22, 19, 16);
-        joinBoth(s, 86, 83, 80);
-        joinBoth(s, 19, 20, 18);
-        joinBoth(s, 18, 20, 18);
-        joinBoth(s, 19, 21, 16);
-        joinBoth(s, 19, 23, 16);
-        joinBoth(s, 17, 23, 17);
-        joinBoth(s, 22, 24, 16);
-        joinBoth(s, 24, 25, 22);
-        joinBoth(s, 88, 89, 86);
-        joinBoth(s, 83, 84, 82);
-        joinBoth(s, 147, 148, 146);
-        joinBoth(s, 211, 212, 210);
-        joinBoth(s, 83, 85, 80);
-        joinBoth(s, 83, 147, 80);
-        joinBoth(s, 83, 19, 16);
-        joinBoth(s, 76, 19, 16);
-        joinBoth(s, 76, 83, 16);
-        joinBoth(s, 76, 140, 16);
-        joinBoth(s, 76, 204, 16);
-        joinBoth(s, 76, 147, 16);
-        joinBoth(s, 140, 80, 80);
-        joinBoth(s, 140, 83, 80);
-        joinBoth(s, 140, 144, 80);
-        joinBoth(s, 140, 204, 80);
-        joinBoth(s, 204, 208, 144);
-        joinBoth(s, 204, 147, 144);
-        joinBoth(s, 204, 83, 80);
-        joinBoth(s, 211, 140, 80);
-        joinBoth(s, 76, 76, 76);
+        for (int t = 0; t <= 5; t++) s.join(t, t, t);
+        s.join(1, 2, 0);
+        s.join(3, 4, 0);
+        s.join(0, 5, 0);
+        s.join(0, 16, 0);
+        s.join(1, 16, 0);
+        s.join(1, 5, 0);
+        s.join(1, 76, 0);
+        s.join(5, 19, 19);
+        s.join(5, 204, 204);
+        s.join(5, 22, 22);
+        s.join(22, 22, 22);
+        s.join(22, 19, 16);
+        s.join(86, 83, 80);
+        s.join(19, 20, 18);
+        s.join(18, 20, 18);
+        s.join(19, 21, 16);
+        s.join(19, 23, 16);
+        s.join(17, 23, 17);
+        s.join(22, 24, 16);
+        s.join(24, 25, 22);
+        s.join(88, 89, 86);
+        s.join(83, 84, 82);
+        s.join(147, 148, 146);
+        s.join(211, 212, 210);
+        s.join(83, 85, 80);
+        s.join(83, 147, 80);
+        s.join(83, 19, 16);
+        s.join(76, 19, 16);
+        s.join(76, 83, 16);
+        s.join(76, 140, 16);
+        s.join(76, 204, 16);
+        s.join(76, 147, 16);
+        s.join(140, 80, 80);
+        s.join(140, 83, 80);
+        s.join(140, 144, 80);
+        s.join(140, 204, 80);
+        s.join(204, 208, 144);
+        s.join(204, 147, 144);
+        s.join(204, 83, 80);
+        s.join(211, 140, 80);
+        s.join(76, 76, 76);
     }
 
     private static void joinedUpwards() {
@@ -89,59 +84,55 @@ public final class TypesTest {
         for (int c = 2; c < 10; c++) s.due("cls", s.gate.cls(c - 1, false), c);
         for (int c = 0; c < 10; c++) {
             for (int d = 0; d < 10; d++) {
-                joinBoth(s, 16 + c, 16 + d, 16 + Math.min(c, d));
+                s.join(16 + c, 16 + d, 16 + Math.min(c, d));
                 s.due("goes(" + (16 + c) + ", " + (16 + d) + ")", s.gate.goes(16 + c, 16 + d), c >= d ? 1 : 0);
                 s.due("rows", s.gate.goes(208 + c, 208 + d), c >= d ? 1 : 0);
             }
         }
     }
 
-    private static void goes(Script s, int a, int b, int want) {
-        s.due("goes(" + a + ", " + b + ")", s.gate.goes(a, b), want);
-    }
-
     private static void goes() {
         Script s = family("goes");
         for (int a = 0; a <= 5; a++) {
-            for (int b = 0; b <= 5; b++) goes(s, a, b, a == b ? 1 : 0);
+            for (int b = 0; b <= 5; b++) s.goes(a, b, a == b ? 1 : 0);
         }
         for (int t : new int[] {16, 17, 22, 25, 76, 80, 89, 140, 144, 204, 217}) {
-            goes(s, t, t, 1);
-            goes(s, t, 16, 1);
-            goes(s, 5, t, 1);
-            goes(s, t, 5, 0);
-            goes(s, 1, t, 0);
-            goes(s, t, 1, 0);
-            goes(s, 0, t, 0);
+            s.goes(t, t, 1);
+            s.goes(t, 16, 1);
+            s.goes(5, t, 1);
+            s.goes(t, 5, 0);
+            s.goes(1, t, 0);
+            s.goes(t, 1, 0);
+            s.goes(0, t, 0);
         }
-        goes(s, 19, 18, 1);
-        goes(s, 18, 19, 0);
-        goes(s, 19, 20, 0);
-        goes(s, 19, 22, 1);
-        goes(s, 16, 22, 1);
-        goes(s, 22, 19, 0);
-        goes(s, 24, 22, 1);
-        goes(s, 76, 22, 0);
-        goes(s, 80, 22, 0);
-        goes(s, 83, 86, 1);
-        goes(s, 147, 86, 0);
-        goes(s, 147, 80, 1);
-        goes(s, 211, 80, 1);
-        goes(s, 211, 144, 1);
-        goes(s, 83, 82, 1);
-        goes(s, 82, 83, 0);
-        goes(s, 83, 19, 0);
-        goes(s, 19, 83, 0);
-        goes(s, 76, 80, 0);
-        goes(s, 80, 76, 0);
-        goes(s, 76, 140, 0);
-        goes(s, 140, 76, 0);
-        goes(s, 140, 80, 1);
-        goes(s, 140, 81, 0);
-        goes(s, 140, 144, 0);
-        goes(s, 204, 144, 1);
-        goes(s, 204, 80, 1);
-        goes(s, 204, 208, 0);
+        s.goes(19, 18, 1);
+        s.goes(18, 19, 0);
+        s.goes(19, 20, 0);
+        s.goes(19, 22, 1);
+        s.goes(16, 22, 1);
+        s.goes(22, 19, 0);
+        s.goes(24, 22, 1);
+        s.goes(76, 22, 0);
+        s.goes(80, 22, 0);
+        s.goes(83, 86, 1);
+        s.goes(147, 86, 0);
+        s.goes(147, 80, 1);
+        s.goes(211, 80, 1);
+        s.goes(211, 144, 1);
+        s.goes(83, 82, 1);
+        s.goes(82, 83, 0);
+        s.goes(83, 19, 0);
+        s.goes(19, 83, 0);
+        s.goes(76, 80, 0);
+        s.goes(80, 76, 0);
+        s.goes(76, 140, 0);
+        s.goes(140, 76, 0);
+        s.goes(140, 80, 1);
+        s.goes(140, 81, 0);
+        s.goes(140, 144, 0);
+        s.goes(204, 144, 1);
+        s.goes(204, 80, 1);
+        s.goes(204, 208, 0);
     }
 
     private static void refusals() {
@@ -150,13 +141,13 @@ public final class TypesTest {
             999, 1000, 1047, 2000, 2047, Integer.MAX_VALUE, Integer.MIN_VALUE, -48, -52};
         for (int t : none) {
             for (int u : new int[] {0, 5, 16, t}) {
-                joinBoth(s, t, u, -1);
-                goes(s, t, u, -1);
-                goes(s, u, t, -1);
+                s.join(t, u, -1);
+                s.goes(t, u, -1);
+                s.goes(u, t, -1);
             }
         }
         s.due("cls", s.gate.cls(0, false), 2);
-        joinBoth(s, 18, 18, 18);
-        joinBoth(s, 210, 5, 210);
+        s.join(18, 18, 18);
+        s.join(210, 5, 210);
     }
 }
