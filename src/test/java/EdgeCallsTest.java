@@ -8,6 +8,7 @@ public final class EdgeCallsTest {
 
     public static void main(String[] args) {
         calls512();
+        twoObjects();
         firstClasses();
         clsRefused();
         clsFull();
@@ -43,6 +44,17 @@ public final class EdgeCallsTest {
         int calls = 57;
         for (; calls < 511; calls++) s.due("verify " + calls, x.verify(), 0);
         s.due("the 512th", x.count(6), 511 - 57);
+    }
+
+    /** What one object is told is nothing to another one. */
+    private static void twoObjects() {
+        Script s = new Script("one object");
+        Script t = new Script("another object");
+        s.due("cls", s.gate.cls(0, true), 2).begin(1, 1, 1, 1).code("LOAD 0; GIVE").handler(0, 1, 1, 1);
+        t.count(0, 2).count(1, 0).count(2, 0).count(3, 0).verify(1, 0).code("GIVE").passes();
+        s.count(6, 0).state(0, 32, -1).verify(2, 1).stack(1, 0);
+        t.count(4, 1).count(6, 1).stack(0).due("place()", t.gate.place(), -1);
+        s.due("place()", s.gate.place(), 1);
     }
 
     /** "0 OBJECT, without a SUPER, and 1 THROWN, with SUPER 0, are there", neither an INTERFACE. */
@@ -250,7 +262,8 @@ public final class EdgeCallsTest {
         s.due("full", s.gate.argument(1), -2).due("full", s.gate.handler(0, 1, 0, 1), -2);
         s.due("full", s.gate.add(0, 0, 0), -2).due("begin", s.gate.begin(0, 0, 0), 1);
         s.count(1, 0).count(2, 0).count(3, 0).due("no INSTRUCTION", s.gate.change(0, 0, 0, 0), -1).verify(1, 0);
-        s.due("first", s.gate.argument(1), 1).due("first", s.gate.handler(0, 1, 0, 1), 1).due("first", s.gate.add(18, 0, 0), 0);
+        s.due("first", s.gate.argument(1), 1).due("first", s.gate.handler(0, 1, 0, 1), 1);
+        s.due("first", s.gate.add(18, 0, 0), 0);
         s.verify(1, 200);
         s.begin(0, 0, 0).code("GIVE").passes().locals(0).stack(0);
     }
@@ -285,7 +298,8 @@ public final class EdgeCallsTest {
         Script s = new Script("add REFUSED");
         for (int op : new int[] {-1, -2, 31, 32, 64, 256}) s.due("add(" + op + ")", s.gate.add(op, 0, 0), -1);
         for (int op : FAR) s.due("add(" + op + ")", s.gate.add(op, 0, 0), -1);
-        s.count(1, 0).due("add(0)", s.gate.add(0, LEAST, MOST), 0).due("add(30)", s.gate.add(30, MOST, LEAST), 1).count(1, 2);
+        s.count(1, 0).due("add(0)", s.gate.add(0, LEAST, MOST), 0).due("add(30)", s.gate.add(30, MOST, LEAST), 1);
+        s.count(1, 2);
         s.verify(1, 1);
     }
 

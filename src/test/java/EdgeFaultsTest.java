@@ -2,6 +2,10 @@
 public final class EdgeFaultsTest {
     private static final int LEAST = Integer.MIN_VALUE, MOST = Integer.MAX_VALUE;
     private static final int[] FAR = {LEAST, LEAST + 1, -65536, -64, 1 << 16, 1 << 30, MOST - 1, MOST};
+    /** The ops of which a alone is looked at, and those of which neither is. */
+    private static final String[] ONLY_A = {"PUSH", "LOAD", "STORE", "MATH", "COMPARE", "RET", "NEW", "BUILD", "CAST", "ROW",
+        "AT", "PUT", "ADD"};
+    private static final String[] NEITHER = {"NOP", "POP", "DUP", "OVER", "SWAP", "DUP2", "GIVE", "THROW", "SIZE"};
 
     public static void main(String[] args) {
         noInstruction();
@@ -79,9 +83,7 @@ public final class EdgeFaultsTest {
     private static void farNumbers() {
         for (int n : FAR) {
             Script s = new Script("far numbers " + n);
-            for (String op : new String[] {"PUSH", "LOAD", "STORE", "MATH", "COMPARE", "RET", "NEW", "BUILD", "CAST", "ROW", "AT", "PUT", "ADD"}) {
-                form(s, false, op, n, 1);
-            }
+            for (String op : ONLY_A) form(s, false, op, n, 1);
             for (String op : new String[] {"CHANGE", "CHOOSE", "GET", "SET", "CALL"}) {
                 form(s, false, op, n, 1);
                 form(s, false, op, 1, n);
@@ -90,7 +92,7 @@ public final class EdgeFaultsTest {
                 form(s, false, op, 1, n);
                 form(s, true, op, n, 1);
             }
-            for (String op : new String[] {"NOP", "POP", "DUP", "OVER", "SWAP", "DUP2", "GIVE", "THROW", "SIZE"}) form(s, true, op, n, n);
+            for (String op : NEITHER) form(s, true, op, n, n);
             form(s, true, "PUSH", 1, n);
             form(s, true, "ADD", 1, n);
         }
@@ -309,7 +311,9 @@ public final class EdgeFaultsTest {
     private static void needsOfLocals() {
         Script s = new Script("needs of LOCALS");
         for (String op : new String[] {"LOAD 11", "ADD 11", "RET 11"}) s.begin(0, 12, 12).code(op + "; GIVE").verify(2, 0);
-        for (String op : new String[] {"LOAD 11", "ADD 11"}) s.begin(0, 12, 12).code("SUB 1; STORE 11; " + op + "; GIVE").verify(2, 2);
+        for (String op : new String[] {"LOAD 11", "ADD 11"}) {
+            s.begin(0, 12, 12).code("SUB 1; STORE 11; " + op + "; GIVE").verify(2, 2);
+        }
         s.begin(0, 12, 12).code("SUB 2; GIVE; STORE 11; RET 11").passes().locals(1);
         for (int t : new int[] {2, 5}) s.begin(0, 12, 12).code("PUSH " + t + "; STORE 11; ADD 11; GIVE").verify(2, 2);
         for (int t : new int[] {1, 2, 5}) s.begin(0, 12, 12).code("PUSH " + t + "; STORE 11; RET 11; GIVE").verify(2, 2);
@@ -335,10 +339,13 @@ public final class EdgeFaultsTest {
                 t.passes().state(stack + 1, 32, stack);
             }
         }
-        s.begin(0, 0, 3).code("PUSH 1; PUSH 1; DUP2; GIVE").verify(3, 2).begin(0, 0, 4).code("PUSH 1; PUSH 1; DUP2; GIVE").passes();
-        s.begin(0, 0, 2).code("PUSH 1; PUSH 1; OVER; GIVE").verify(3, 2).begin(0, 0, 3).code("PUSH 1; PUSH 1; OVER; GIVE").passes();
+        s.begin(0, 0, 3).code("PUSH 1; PUSH 1; DUP2; GIVE").verify(3, 2);
+        s.begin(0, 0, 4).code("PUSH 1; PUSH 1; DUP2; GIVE").passes();
+        s.begin(0, 0, 2).code("PUSH 1; PUSH 1; OVER; GIVE").verify(3, 2);
+        s.begin(0, 0, 3).code("PUSH 1; PUSH 1; OVER; GIVE").passes();
         // What takes as much as it puts has room on a full STACK.
-        s.begin(0, 0, 2).code("PUSH 1; PUSH 1; SWAP; NOP; MATH 1; CHANGE 1 2; CHANGE 2 1; ROW 12; SIZE; GIVE").passes().stack(9, 1);
+        s.begin(0, 0, 2).code("PUSH 1; PUSH 1; SWAP; NOP; MATH 1; CHANGE 1 2; CHANGE 2 1; ROW 12; SIZE; GIVE").passes();
+        s.stack(9, 1);
     }
 
     /** "4: the one that is MET": on, a goal, the first of a SUBROUTINE, behind a SUB, a HANDLER's AT. */
@@ -398,7 +405,8 @@ public final class EdgeFaultsTest {
         Script s = new Script("no END");
         s.begin(0, 1, 2, 1).code("GIVE").passes().begin(0, 1, 2, 17).code("LOAD 0; THROW").passes();
         s.begin(0, 1, 2, 1).code("GO 0").passes().begin(0, 1, 2, 1).code("LOAD 0; CHOOSE 0 0").passes();
-        s.begin(0, 1, 2, 1).code("GO 2; GIVE; SUB 1").passes().begin(0, 1, 2, 1).code("SUB 2; GIVE; STORE 0; RET 0").passes();
+        s.begin(0, 1, 2, 1).code("GO 2; GIVE; SUB 1").passes();
+        s.begin(0, 1, 2, 1).code("SUB 2; GIVE; STORE 0; RET 0").passes();
         s.begin(0, 1, 2, 1).code("GIVE; NOP").passes().state(1, 32, -1);
     }
 
@@ -406,7 +414,8 @@ public final class EdgeFaultsTest {
     private static void again() {
         Script s = new Script("AGAIN");
         s.begin(0, 2, 3).code("SUB 1; SUB 1; GIVE").verify(6, 1).count(4, 2).state(2, 32, -1);
-        s.begin(0, 2, 3).code("SUB 1; SUB 2; SUB 1; GIVE").verify(6, 2).begin(0, 2, 3).code("SUB 1; SUB 2; SUB 2; GIVE").verify(6, 2);
+        s.begin(0, 2, 3).code("SUB 1; SUB 2; SUB 1; GIVE").verify(6, 2);
+        s.begin(0, 2, 3).code("SUB 1; SUB 2; SUB 2; GIVE").verify(6, 2);
         s.begin(0, 2, 3).code("SUB 1; SUB 2; SUB 3; GIVE").passes().subs(3, 1, 0, 2, 0, 3, 0);
         s.begin(0, 2, 3).code("SUB 3; SUB 3; GIVE; STORE 0; RET 0").passes();
         // 0 as a SUBROUTINE is not in SUBS when it is gone to otherwise.
@@ -420,7 +429,8 @@ public final class EdgeFaultsTest {
         change(s, 1, "GIVE", 0, 0);
         s.passes();
         // In SUBS it may be left from as deep as it likes.
-        s.begin(0, 3, 1).code("SUB 2; GIVE; STORE 0; SUB 4; STORE 1; SUB 6; STORE 2; RET 0").passes().subs(7, 2, 7, 4, 6, 6, 4).subs(1);
+        s.begin(0, 3, 1).code("SUB 2; GIVE; STORE 0; SUB 4; STORE 1; SUB 6; STORE 2; RET 0").passes();
+        s.subs(7, 2, 7, 4, 6, 6, 4).subs(1);
         s.locals(1, 0, 2004, 2006);
     }
 
@@ -444,7 +454,8 @@ public final class EdgeFaultsTest {
         for (int local = 0; local <= 11; local++) {
             Script s = new Script("RAW in LOCAL " + local);
             s.begin(0, 12, 1).code("NEW 0; STORE " + local + "; NOP; GO 2").verify(8, 3);
-            s.begin(0, 12, 1).code("NEW 0; STORE " + local + "; LOAD " + local + "; BUILD 0; GO 4").passes().state(4, local, 16);
+            s.begin(0, 12, 1).code("NEW 0; STORE " + local + "; LOAD " + local + "; BUILD 0; GO 4").passes();
+            s.state(4, local, 16);
             s.begin(0, 12, 1).code("NEW 0; STORE " + local + "; PUSH 1; STORE " + local + "; GO 0").passes();
         }
         for (int above = 0; above <= 11; above++) {
@@ -518,8 +529,8 @@ public final class EdgeFaultsTest {
         Script s = new Script("2, then 7");
         s.begin(0, 1, 1).code("RET 0").verify(2, 0);
         s.begin(0, 2, 2).code("SUB 3; RET 1; GIVE; STORE 1; SUB 5; STORE 0; RET 1").verify(2, 1);
-        // 7 with a RAW one in LOCAL 1 and no one behind the SUB: neither 8 nor 5 is asked for then.
-        s.begin(0, 3, 2).code("SUB 6; NEW 0; STORE 2; RET 0; GIVE; GIVE; STORE 1; SUB 8; STORE 0; RET 1").verify(7, 3);
+        // Behind the SUB it would be 8, for the RAW one, and 4, for the STACK: 7 comes before them.
+        s.begin(0, 3, 2).code("SUB 3; GO 7; GIVE; STORE 1; SUB 5; STORE 0; RET 1; NEW 0; STORE 2; RET 0").verify(7, 9);
         s.begin(0, 2, 2).code("GO 4; NOP; STORE 1; RET 1; NEW 0; SUB 2").verify(8, 5);
         s.begin(0, 2, 2).code("NEW 0; SUB 3; GIVE; STORE 1; RET 1").verify(8, 4);
         s.begin(0, 2, 2).code("GO 3; STORE 1; RET 1; SUB 1").verify(5, 2);

@@ -61,13 +61,15 @@ public final class EdgeStateTest {
             for (int slot = 16 + depth; slot < 32; slot++) s.state(depth, slot, -1);
         }
         // What was there before it was taken is there no more.
-        s.begin(0, 0, 2).code("PUSH 1; PUSH 2; POP; POP; GIVE").passes().stack(2, 1, 2).stack(3, 1).stack(4).state(4, 17, -1);
+        s.begin(0, 0, 2).code("PUSH 1; PUSH 2; POP; POP; GIVE").passes();
+        s.stack(2, 1, 2).stack(3, 1).stack(4).state(4, 17, -1);
     }
 
     /** "32: how many are on the STACK": WIDE ones are one each there, though they count two for the limit. */
     private static void stackCountsThings() {
         Script s = new Script("how many on the STACK");
-        s.begin(0, 0, 12).code("PUSH 3; PUSH 4; PUSH 3; PUSH 4; PUSH 3; PUSH 4; GIVE").passes().stack(6, 3, 4, 3, 4, 3, 4);
+        s.begin(0, 0, 12).code("PUSH 3; PUSH 4; PUSH 3; PUSH 4; PUSH 3; PUSH 4; GIVE").passes();
+        s.stack(6, 3, 4, 3, 4, 3, 4);
         s.begin(0, 0, 0).code("NOP; GIVE").passes().stack(0).stack(1);
     }
 
@@ -75,8 +77,9 @@ public final class EdgeStateTest {
     private static void otherSlots() {
         Script s = new Script("other slots");
         s.begin(0, 12, 12).code("SUB 1; GIVE").passes().subs(1, 1, 0).stack(1, 2001);
-        for (int slot : new int[] {-2, -1, 12, 13, 14, 15, 17, 28, 29, 30, 31, 35, 36, 37, 38, 39, 41, 42, 43, 44, 45, 46, 47, 48, 64}) {
-            s.state(1, slot, -1);
+        for (int slot = -3; slot <= 70; slot++) {
+            boolean there = slot >= 0 && slot < 12 || slot == 16 || slot == 32 || slot == 33 || slot == 34 || slot == 40;
+            if (!there) s.state(1, slot, -1);
         }
         for (int slot : FAR) s.state(1, slot, -1).state(0, slot, -1);
         for (int slot = 34; slot <= 47; slot++) s.state(0, slot, -1);
@@ -120,7 +123,8 @@ public final class EdgeStateTest {
         s.begin(0, 12, 2).code("SUB 1; NOP; GIVE").passes().subs(1, 1, 0).subs(2, 1, 0);
         s.begin(0, 12, 2).code("SUB 1; STORE 0; GIVE").passes().subs(2, 1, 1);
         s.begin(0, 12, 2).code("SUB 1; STORE 11; GIVE").passes().subs(2, 1, 2048);
-        s.begin(0, 12, 3).code("SUB 1; PUSH 3; STORE 10; GIVE").passes().subs(3, 1, 3072).locals(3, 0, 0, 0, 0, 0, 0, 0, 0, 0, 0, 3);
+        s.begin(0, 12, 3).code("SUB 1; PUSH 3; STORE 10; GIVE").passes();
+        s.subs(3, 1, 3072).locals(3, 0, 0, 0, 0, 0, 0, 0, 0, 0, 0, 3);
         s.begin(0, 12, 3, 4).code("SUB 1; LOAD 0; GIVE").passes().subs(2, 1, 3);
         s.begin(0, 12, 3, 1).code("SUB 1; ADD 0; GIVE").passes().subs(2, 1, 1);
         s.begin(0, 12, 3, 3).code("SUB 1; PUSH 1; STORE 1; GIVE").passes().subs(3, 1, 2).locals(3, 0, 1);
@@ -133,7 +137,8 @@ public final class EdgeStateTest {
     /** "as the latest verify() found it": one that ended with a FAULT, too, and whatever was told since. */
     private static void latestVerify() {
         Script s = new Script("the latest verify()");
-        s.begin(0, 1, 2, 1).code("LOAD 0; NOP; POP; POP; GIVE").verify(2, 3).stack(1, 1).stack(2, 1).stack(3).state(4, 32, -1);
+        s.begin(0, 1, 2, 1).code("LOAD 0; NOP; POP; POP; GIVE").verify(2, 3);
+        s.stack(1, 1).stack(2, 1).stack(3).state(4, 32, -1);
         s.due("change", s.gate.change(3, 0, 0, 0), 4).stack(2, 1).state(4, 32, -1).due("place", s.gate.place(), 3);
         s.passes().stack(4).count(5, 5);
         s.due("REFUSED", s.gate.add(31, 0, 0), -1).due("REFUSED", s.gate.begin(5, 0, 0), -1).stack(4).count(5, 5);
@@ -151,7 +156,8 @@ public final class EdgeStateTest {
             s.begin(0, 2, 0, 1, wide).code("GIVE").verify(1, 200);
             s.begin(0, 3, 0, wide, 1).code("GIVE").passes().locals(0, wide, 0, 1);
         }
-        s.begin(0, 12, 2, 3, 4, 3, 4, 3, 4).code("LOAD 10; GIVE").passes().locals(1, 3, 0, 4, 0, 3, 0, 4, 0, 3, 0, 4, 0).stack(1, 4);
+        s.begin(0, 12, 2, 3, 4, 3, 4, 3, 4).code("LOAD 10; GIVE").passes();
+        s.locals(1, 3, 0, 4, 0, 3, 0, 4, 0, 3, 0, 4, 0).stack(1, 4);
         s.begin(0, 11, 2, 3, 4, 3, 4, 3, 4).code("GIVE").verify(1, 200);
         s.begin(0, 11, 2, 3, 4, 3, 4, 3, 1).code("LOAD 10; GIVE").passes().stack(1, 1);
     }
@@ -161,13 +167,15 @@ public final class EdgeStateTest {
         for (int locals = 1; locals <= 12; locals++) {
             Script s = new Script("WIDE ones in " + locals + " LOCALS");
             for (int wide = 3; wide <= 4; wide++) {
-                s.begin(0, locals, 2).code("PUSH " + wide + "; STORE " + (locals - 1) + "; GIVE").verify(2, 1).stack(1, wide);
+                s.begin(0, locals, 2).code("PUSH " + wide + "; STORE " + (locals - 1) + "; GIVE").verify(2, 1);
+                s.stack(1, wide);
                 s.begin(0, locals, 2).code("PUSH 1; STORE " + (locals - 1) + "; GIVE").passes().state(2, locals - 1, 1);
                 if (locals == 1) continue;
                 int last = locals - 2;
                 s.begin(0, locals, 2).code("PUSH " + wide + "; STORE " + last + "; LOAD " + last + "; GIVE").passes();
                 s.state(2, last, wide).state(2, last + 1, 0).stack(3, wide);
-                s.begin(0, locals, 2).code("PUSH " + wide + "; STORE " + last + "; LOAD " + (last + 1) + "; GIVE").verify(2, 2);
+                s.begin(0, locals, 2).code("PUSH " + wide + "; STORE " + last + "; LOAD " + (last + 1) + "; GIVE");
+                s.verify(2, 2);
             }
         }
     }
@@ -178,7 +186,10 @@ public final class EdgeStateTest {
             Script s = new Script("WIDE one in LOCAL " + at);
             String wide = "PUSH 3; STORE " + at + "; PUSH 5; STORE ";
             // Behind its second LOCAL, and in front of it, what is stored leaves it alone.
-            if (at < 10) s.begin(0, 12, 2).code(wide + (at + 2) + "; GIVE").passes().state(4, at, 3).state(4, at + 1, 0).state(4, at + 2, 5);
+            if (at < 10) {
+                s.begin(0, 12, 2).code(wide + (at + 2) + "; GIVE").passes();
+                s.state(4, at, 3).state(4, at + 1, 0).state(4, at + 2, 5);
+            }
             if (at > 0) s.begin(0, 12, 2).code(wide + (at - 1) + "; GIVE").passes().state(4, at, 3).state(4, at - 1, 5);
             s.begin(0, 12, 2).code(wide + (at + 1) + "; GIVE").passes().state(4, at, 0).state(4, at + 1, 5);
             s.begin(0, 12, 2).code(wide + at + "; GIVE").passes().state(4, at, 5).state(4, at + 1, 0);
@@ -208,9 +219,11 @@ public final class EdgeStateTest {
         for (int wide = 3; wide <= 4; wide++) {
             Script s = new Script("at the limit of the STACK with " + wide);
             s.begin(0, 0, 1).code("PUSH 1; CHANGE 1 " + wide + "; GIVE").verify(3, 1);
-            s.begin(0, 0, 2).code("PUSH 1; CHANGE 1 " + wide + "; CHANGE " + wide + " " + (7 - wide) + "; GIVE").passes().stack(3, 7 - wide);
+            s.begin(0, 0, 2).code("PUSH 1; CHANGE 1 " + wide + "; CHANGE " + wide + " " + (7 - wide) + "; GIVE").passes();
+            s.stack(3, 7 - wide);
             s.begin(0, 0, 2).code("PUSH " + wide + "; CHANGE " + wide + " 1; PUSH 1; GIVE").passes().stack(3, 1, 1);
-            s.begin(0, 0, 4).code("PUSH " + wide + "; DUP2; MATH " + wide + "; DUP2; COMPARE " + wide + "; PUSH 1; GIVE").passes();
+            s.begin(0, 0, 4).code("PUSH " + wide + "; DUP2; MATH " + wide + "; DUP2; COMPARE " + wide + "; PUSH 1; GIVE");
+            s.passes();
             s.stack(2, wide, wide).stack(5, 1).stack(6, 1, 1);
             s.begin(0, 0, 3).code("PUSH " + wide + "; DUP2; GIVE").verify(3, 1);
             s.begin(0, 2, 3, wide).code("PUSH 1; LOAD 0; GIVE").passes().stack(2, 1, wide);
@@ -222,10 +235,12 @@ public final class EdgeStateTest {
     /** A WIDE one JOINED with another TYPE is NOTHING and counts one: there is room for one more then. */
     private static void wideJoined() {
         Script s = new Script("WIDE ones JOINED");
-        s.begin(0, 1, 2, 1).code("LOAD 0; IF 4; PUSH 3; GO 5; PUSH 4; PUSH 1; GIVE").passes().stack(5, 0).stack(6, 0, 1);
+        s.begin(0, 1, 2, 1).code("LOAD 0; IF 4; PUSH 3; GO 5; PUSH 4; PUSH 1; GIVE").passes();
+        s.stack(5, 0).stack(6, 0, 1);
         s.begin(0, 1, 2, 1).code("LOAD 0; IF 5; PUSH 3; PUSH 1; GIVE; PUSH 4; GO 3").verify(3, 3).stack(3, 3);
         s.begin(0, 1, 2, 1).code("LOAD 0; IF 5; PUSH 3; GO 6; NOP; PUSH 4; GIVE").passes().stack(6, 0);
-        s.begin(0, 1, 2, 1).code("LOAD 0; IF 4; PUSH 1; GO 5; PUSH 4; PUSH 1; GIVE").passes().stack(5, 0).stack(6, 0, 1);
+        s.begin(0, 1, 2, 1).code("LOAD 0; IF 4; PUSH 1; GO 5; PUSH 4; PUSH 1; GIVE").passes();
+        s.stack(5, 0).stack(6, 0, 1);
         s.begin(0, 3, 2, 1, 3).code("LOAD 0; IF 4; PUSH 4; STORE 1; GIVE").passes().locals(4, 1, 0, 0);
     }
 }

@@ -138,5 +138,8 @@ public final class FlowTest {
         s.verify(2, 3).subs(0).stack(5, 17).count(4, 3);
         s.gate.change(0, Script.op("PUSH"), 9, 0);
         s.verify(1, 0).count(4, 0).count(5, 0).count(7, 0).state(0, 33, -1);
+        // What was TOUCHED in a SUBROUTINE then makes nothing another now, where a greater one is in SUBS.
+        s.begin(0, 2, 2).code("SUB 1; STORE 0; NOP; GIVE; THROW").handler(2, 3, 4, 1).passes().subs(4, 1, 1);
+        s.begin(0, 2, 2).code("NOP; SUB 2; STORE 1; PUSH 1; IF 3; GIVE").passes().subs(3, 2, 2).count(4, 6);
     }
 }

@@ -1,6 +1,10 @@
 import java.util.Random;
 
-/** All promises: METHODS made by chance and mended where they fail, each answer held against the model's. */
+/**
+ * All promises: METHODS made by chance and mended where they fail, each answer held against the model's. An object is
+ * used here for longer than the 512 calls of the document, since all slots of all STATES are looked at; the other tests
+ * keep to the 512.
+ */
 public final class ModelTest {
     private static final int ROUNDS = 1500, MENDINGS = 120;
 
