@@ -39,7 +39,16 @@ public final class FaceTest {
         s.due("public final", Modifier.isPublic(modifiers) && Modifier.isFinal(modifiers) ? 1 : 0, 1);
         s.due("REFUSED", FlowGate.REFUSED, -1);
         s.due("FULL", FlowGate.FULL, -2);
+        example();
         Script.end();
+    }
+
+    /** README.md's own example. */
+    private static void example() {
+        Script s = new Script("README.md");
+        s.due("begin", s.gate.begin(1, 1, 1), 1).due("argument", s.gate.argument(1), 1);
+        s.due("add", s.gate.add(2, 0, 0), 0).due("add", s.gate.add(18, 0, 0), 1);
+        s.due("verify()", s.gate.verify(), 0).due("place()", s.gate.place(), -1).state(1, 16, 1);
     }
 
     private static String tell(Method m) {

@@ -52,7 +52,6 @@ final class Model {
     int looked;
     int fault;
     int place = -1;
-    int passed;
 
     boolean isClass(int c) {
         return c >= 0 && c < supers.size();
@@ -125,7 +124,6 @@ final class Model {
         try {
             form();
             flow();
-            passed++;
         } catch (Fault f) {
             fault = f.number;
             place = f.place;

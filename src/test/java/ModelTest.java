@@ -1,26 +1,31 @@
 import java.util.Random;
 
 /**
- * All promises: METHODS made by chance and mended where they fail, each answer held against the model's. An object is
- * used here for longer than the 512 calls of the document, since all slots of all STATES are looked at; the other tests
- * keep to the 512.
+ * All promises: METHODS made by chance and mended where they fail, each answer held against the model's. When an object
+ * has no calls left, another one is made that is told the same.
  */
 public final class ModelTest {
-    private static final int ROUNDS = 1500, MENDINGS = 120;
+    private static final int ROUNDS = 1500, MENDINGS = 120, SOME = 60;
+
+    /** What another METHOD leaves in the object: SUBS, what was TOUCHED, a RAW one, a WIDE one, a RETURN. */
+    private static final int[][] EARLIER = {
+        {1, 3, 0}, {3, 10, 0}, {15, 0, 3}, {3, 5, 0}, {20, 0, 0}, {3, 6, 0}, {15, 0, 7}, {3, 7, 0}, {18, 0, 0},
+        {19, 0, 0}};
 
     /** A SUBROUTINE that is left out of another one that it began, and then a RET of that one (FAULT 7). */
     private static final int[][] OUT_OF_TWO = {
         {15, 0, 3}, {16, 0, 0}, {18, 0, 0}, {3, 1, 0}, {15, 0, 5}, {3, 0, 0}, {16, 1, 0}};
 
+    private final int seed;
     private final Random chance;
-    private final Script script;
-    private final FlowGate gate;
     private final Model model = new Model();
+    private Script script;
+    private FlowGate gate;
+    private int passed;
 
     private ModelTest(int seed) {
+        this.seed = seed;
         chance = new Random(seed);
-        script = new Script("seed " + seed);
-        gate = script.gate;
     }
 
     public static void main(String[] args) {
@@ -33,8 +38,9 @@ public final class ModelTest {
 
     private void run(int[] faults) {
         classes();
-        types();
         method();
+        renew();
+        types();
         for (int i = 0; i < MENDINGS; i++) {
             int fault = verify();
             faults[fault]++;
@@ -45,12 +51,40 @@ public final class ModelTest {
     private void classes() {
         int many = chance.nextInt(9);
         for (int i = 0; i < many; i++) {
-            int above = chance.nextInt(model.supers.size());
-            boolean isInterface = chance.nextInt(4) == 0;
-            script.due("cls", gate.cls(above, isInterface), model.supers.size());
-            model.supers.add(above);
-            model.interfaces.add(isInterface);
+            model.supers.add(chance.nextInt(model.supers.size()));
+            model.interfaces.add(chance.nextInt(4) == 0);
         }
+    }
+
+    /** Another object that has been told all that the model has. */
+    private void renew() {
+        script = new Script("seed " + seed);
+        gate = script.gate;
+        passed = 0;
+        for (int c = 2; c < model.supers.size(); c++) {
+            script.due("cls", gate.cls(model.supers.get(c), model.interfaces.get(c)), c);
+        }
+        if (chance.nextInt(3) == 0) tellEarlier();
+        script.due("begin", gate.begin(model.result, model.locals, model.stack), 1);
+        for (int i = 0; i < model.arguments.size(); i++) script.due("argument", gate.argument(model.arguments.get(i)), i + 1);
+        tell(model.code.toArray(new int[0][]));
+        for (int h = 0; h < model.handlers.size(); h++) {
+            int[] x = model.handlers.get(h);
+            script.due("handler", gate.handler(x[0], x[1], x[2], x[3]), h + 1);
+        }
+    }
+
+    private void tellEarlier() {
+        script.due("begin", gate.begin(0, 12, 12), 1);
+        script.due("argument", gate.argument(4), 1);
+        tell(EARLIER);
+        script.due("handler", gate.handler(0, 4, 9, 1), 1);
+        script.due("verify()", gate.verify(), 0);
+        passed++;
+    }
+
+    private void tell(int[][] code) {
+        for (int k = 0; k < code.length; k++) script.due("add", gate.add(code[k][0], code[k][1], code[k][2]), k);
     }
 
     private void types() {
@@ -76,23 +110,17 @@ public final class ModelTest {
         model.result = chance.nextInt(3) == 0 ? value() : 0;
         model.locals = 2 + chance.nextInt(chance.nextInt(3) == 0 ? 11 : 4);
         model.stack = 1 + chance.nextInt(chance.nextInt(3) == 0 ? 12 : 5);
-        script.due("begin", gate.begin(model.result, model.locals, model.stack), 1);
         int room = model.locals - chance.nextInt(2);
         for (int i = 0; i < 6; i++) {
             int type = chance.nextInt(2) == 0 ? 1 : value();
             room -= Model.wide(type) ? 2 : 1;
             if (room < 0) break;
             model.arguments.add(type);
-            script.due("argument", gate.argument(type), model.arguments.size());
         }
         int size = 4 + chance.nextInt(chance.nextInt(3) == 0 ? 45 : 14);
-        for (int k = 0; k < size; k++) {
-            int[] made = instruction(k, size);
-            model.code.add(made);
-            script.due("add", gate.add(made[0], made[1], made[2]), k);
-        }
+        for (int k = 0; k < size; k++) model.code.add(instruction(k, size));
         if (size >= OUT_OF_TWO.length && model.stack > 1 && chance.nextInt(4) == 0) {
-            for (int k = 0; k < OUT_OF_TWO.length; k++) write(k, OUT_OF_TWO[k].clone());
+            for (int k = 0; k < OUT_OF_TWO.length; k++) model.code.set(k, OUT_OF_TWO[k]);
         }
         int subroutines = chance.nextInt(3);
         for (int i = 0; i < subroutines; i++) subroutine(size);
@@ -105,14 +133,9 @@ public final class ModelTest {
         int begins = chance.nextInt(size);
         int local = chance.nextInt(model.locals);
         int many = 1 + chance.nextInt(3);
-        for (int i = 0; i < many; i++) write(chance.nextInt(size), new int[] {15, 0, begins});
-        write(begins, new int[] {3, local, 0});
-        write(Math.min(size - 1, begins + 1 + chance.nextInt(6)), new int[] {16, local, 0});
-    }
-
-    private void write(int k, int[] made) {
-        int before = model.code.set(k, made)[0];
-        script.due("change", gate.change(k, made[0], made[1], made[2]), before);
+        for (int i = 0; i < many; i++) model.code.set(chance.nextInt(size), new int[] {15, 0, begins});
+        model.code.set(begins, new int[] {3, local, 0});
+        model.code.set(Math.min(size - 1, begins + 1 + chance.nextInt(6)), new int[] {16, local, 0});
     }
 
     private void handler(int size) {
@@ -121,8 +144,6 @@ public final class ModelTest {
         int at = chance.nextInt(size);
         int c = chance.nextInt(3) == 0 ? chance.nextInt(model.supers.size()) : 1;
         model.handlers.add(new int[] {from, to, at, model.below(c, 1) || chance.nextInt(20) == 0 ? c : 1});
-        int[] last = model.handlers.get(model.handlers.size() - 1);
-        script.due("handler", gate.handler(from, to, at, last[3]), model.handlers.size());
     }
 
     private int[] instruction(int k, int size) {
@@ -151,16 +172,39 @@ public final class ModelTest {
     }
 
     private int verify() {
+        if (script.left() < 10) renew();
         int fault = model.verify();
-        script.due("verify()", gate.verify(), fault);
+        verifyAlike();
         script.due("place()", gate.place(), model.place);
         script.count(0, model.supers.size()).count(1, model.code.size()).count(2, model.handlers.size());
         script.count(3, model.arguments.size()).count(4, model.looked).count(5, model.states.size());
-        script.count(6, model.passed).count(7, model.begunSubs());
-        for (int k = -1; k <= model.code.size(); k++) {
-            for (int slot = -1; slot <= 46; slot++) script.state(k, slot, model.state(k, slot));
-        }
+        script.count(6, passed).count(7, model.begunSubs());
+        if (chance.nextInt(4) == 0) allStates();
+        else someStates();
         return fault;
+    }
+
+    private void verifyAlike() {
+        script.due("verify()", gate.verify(), model.fault);
+        if (model.fault == 0) passed++;
+    }
+
+    private void allStates() {
+        for (int k = -1; k <= model.code.size(); k++) {
+            for (int slot = -1; slot <= 46; slot++) state(k, slot);
+        }
+    }
+
+    private void someStates() {
+        for (int i = 0; i < SOME; i++) state(chance.nextInt(model.code.size()), chance.nextInt(48) - 1);
+    }
+
+    private void state(int k, int slot) {
+        if (script.left() == 0) {
+            renew();
+            verifyAlike();
+        }
+        script.state(k, slot, model.state(k, slot));
     }
 
     /** Another INSTRUCTION where the FAULT is, or anywhere if there is none to mend. */
@@ -168,6 +212,9 @@ public final class ModelTest {
         int size = model.code.size();
         boolean there = fault > 0 && model.place < size && chance.nextInt(8) > 0;
         int k = there ? model.place : chance.nextInt(size);
-        write(k, instruction(k, size));
+        if (script.left() == 0) renew();
+        int[] made = instruction(k, size);
+        int before = model.code.set(k, made)[0];
+        script.due("change", gate.change(k, made[0], made[1], made[2]), before);
     }
 }

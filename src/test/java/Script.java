@@ -7,10 +7,12 @@ final class Script {
             "NOP", "PUSH", "LOAD", "STORE", "POP", "DUP", "OVER", "SWAP", "DUP2", "MATH", "CHANGE", "COMPARE",
             "IF", "IFREF", "GO", "SUB", "RET", "CHOOSE", "GIVE", "THROW", "NEW", "BUILD", "GET", "SET", "CALL",
             "CAST", "ROW", "AT", "PUT", "SIZE", "ADD");
+    private static final int MOST_CALLS = 512;
     private static int wrong = 0;
 
     final FlowGate gate = new FlowGate();
     private final String name;
+    private int calls = 0;
 
     Script(String name) {
         this.name = name;
@@ -22,12 +24,27 @@ final class Script {
         return op;
     }
 
+    /** An answer to a call; what is answered after the 512th is free, so that no test may ask for it. */
     Script due(String call, int got, int want) {
+        spend();
         if (got != want) {
             wrong++;
             System.out.println(name + ": " + call + " answered " + got + ", due is " + want);
         }
         return this;
+    }
+
+    private void spend() {
+        calls++;
+        if (calls == MOST_CALLS + 1) {
+            wrong++;
+            System.out.println(name + ": the test makes more than " + MOST_CALLS + " calls");
+        }
+    }
+
+    /** How many calls the object may still be used for. */
+    int left() {
+        return MOST_CALLS - calls;
     }
 
     Script goes(int a, int b, int want) {
@@ -55,12 +72,14 @@ final class Script {
             int second = words.length > 2 ? Integer.parseInt(words[2]) : 0;
             boolean jumps = op >= op("IF") && op <= op("SUB");
             int number = gate.count(1);
+            spend();
             due("add " + line, gate.add(op, jumps ? 0 : first, jumps ? first : second), number);
         }
         return this;
     }
 
     Script handler(int from, int to, int at, int c) {
+        spend();
         due("handler", gate.handler(from, to, at, c), gate.count(2));
         return this;
     }
