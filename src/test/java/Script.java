@@ -38,7 +38,7 @@ final class Script {
         calls++;
         if (calls == MOST_CALLS + 1) {
             wrong++;
-            System.out.println(name + ": the test makes more than " + MOST_CALLS + " calls");
+            System.out.println(name + ": the test looks at more than " + MOST_CALLS + " answers");
         }
     }
 
